@@ -55,8 +55,8 @@ public final class HahaLawn {
     private final Way way = new Way();
     private final Way otherWay = new Way();
     private final Flood flood = new Flood();
-    private final CutSearch cutSearch = new CutSearch(flood);
-    private final GateSearch gateSearch = new GateSearch(flood);
+    private final CutSearch cutSearch = new CutSearch();
+    private final GateSearch gateSearch = new GateSearch();
     private final Guess guess = new Guess();
     private final Fraction fraction = new Fraction();
     private Park told = new Park();
@@ -285,8 +285,7 @@ public final class HahaLawn {
             return refuse(NO_SUCH);
         }
         int goal = told.goals[w];
-        flood.learn(now.ground, told.kinds[w], true);
-        cutSearch.begin(now.at[w], goal);
+        cutSearch.begin(now.ground, told.kinds[w], now.at[w], goal);
         int barred = now.ground.bitsOf(HEDGE) | 1 << now.at[w] | 1 << goal;
         return answer(cutSearch.fewest(now.ground.allBits() & ~barred));
     }
@@ -1335,8 +1334,8 @@ public final class HahaLawn {
             return code;
         }
 
-        private boolean wrong(int number) {
-            fault = number;
+        private boolean wrong(int sort) {
+            fault = sort;
             faultAt = start;
             return false;
         }
@@ -1533,6 +1532,8 @@ public final class HahaLawn {
     private abstract static class Search {
         private static final int MOST = 3;
 
+        final Flood flood = new Flood();
+
         abstract boolean worksBy(int set);
 
         int fewest(int candidates) {
@@ -1562,17 +1563,13 @@ public final class HahaLawn {
         }
     }
 
-    /** Hedges by which a walker, of whom the flood has learnt, never comes there. */
+    /** Hedges by which a walker never comes there. */
     private static final class CutSearch extends Search {
-        private final Flood flood;
         private int from;
         private int to;
 
-        CutSearch(Flood flood) {
-            this.flood = flood;
-        }
-
-        void begin(int start, int goal) {
+        void begin(Ground ground, int kind, int start, int goal) {
+            flood.learn(ground, kind, true);
             from = start;
             to = goal;
         }
@@ -1584,18 +1581,15 @@ public final class HahaLawn {
 
     /** Gates by which each walker has a way without FALL. */
     private static final class GateSearch extends Search {
-        private final Flood flood;
         private final Ground ground = new Ground();
         private Park park;
         private Now now;
-
-        GateSearch(Flood flood) {
-            this.flood = flood;
-        }
+        private int lost;
 
         void begin(Park told, Now state) {
             park = told;
             now = state;
+            lost = 0;
         }
 
         boolean worksBy(int set) {
@@ -1608,9 +1602,12 @@ public final class HahaLawn {
                     ground.put(c, GATE);
                 }
             }
-            for (int w = 0; w < park.walkers; w++) {
+            // Who had no way by the set before is asked first: he is the likeliest to have none again.
+            for (int i = 0; i < park.walkers; i++) {
+                int w = (lost + i) % park.walkers;
                 flood.learn(ground, park.kinds[w], false);
                 if (!flood.comesTo(now.at[w], park.goals[w], 0)) {
+                    lost = w;
                     return false;
                 }
             }

@@ -152,6 +152,7 @@ public final class PromisesTest {
         fine("  park  wide3deep2errs005slips  5 ;row odh;  row ogo  ", 6);
         fine(head + ";walker guest guest at 0 0 to 1 1;walk 2 0 steps 1 dry;walker abcdefgh child at 1 0 to 0 1", 6);
         fine("park wide 5 deep 4 errs 100 slips 100;row uuuuu;row ooooo;row ooooo;row ooooo", 20);
+        fine(head + ";walker ab guest at 0 0 to 1 1;walker ba child at 0 0 to 1 1;walker aa keeper at 0 0 to 1 1", 6);
         fault("", 1, 0);
         fault("   ", 1, 3);
         fault(";", 1, 0);
@@ -431,6 +432,8 @@ public final class PromisesTest {
             + ";walker h guest at 0 0 to 2 1");
         due("23 the one by which they gain", x.toFill(), 5);
         due("23 not changed by asking", x.all(1), 0b101000);
+        x = Check.lawn("park wide 4 deep 3 errs 0 slips 0;row oodo;row dhho;row dooo;walker a guest at 0 0 to 0 2");
+        due("23 by quick ways, of 6, 4 and 8 minutes, not by dry ones, of 8 each", x.toFill(), 4);
         x = Check.lawn("park wide 3 deep 2 errs 0 slips 0;row ooo;row dhd;walker i child at 0 0 to 0 1"
             + ";walker g guest at 2 0 to 2 1;walker h guest at 2 0 to 2 1");
         due("23 who has none needs 60", x.toFill(), 3);
@@ -588,6 +591,7 @@ public final class PromisesTest {
             due("39 upper", x.fallOdds(0, often, false), odds[often][0]);
             due("39 lower", x.fallOdds(0, often, true), odds[often][1]);
         }
+        due("39 nine times", x.fallOdds(0, 9, false) * 10 + x.fallOdds(0, 9, true), 1);
         due("39 no fall", x.fallOdds(1, 0, false) * 10 + x.fallOdds(1, 0, true), 11);
         due("40", x.mean(0, false) * 10 + x.mean(0, true), 12);
         due("40 no fall", x.mean(1, false) * 10 + x.mean(1, true), 1);
