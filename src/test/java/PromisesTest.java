@@ -1,5 +1,3 @@
-import java.util.NoSuchElementException;
-
 /** Each promise by answers worked out by hand: ordinary inputs, edges, wrong inputs. */
 public final class PromisesTest {
     private static final int NONE = HahaLawn.NONE;
@@ -52,21 +50,15 @@ public final class PromisesTest {
     }
 
     private void refused(String what, HahaLawn x, long got, int number) {
-        due(what, got, NONE);
-        due(what + " trouble", x.trouble(), number);
+        check.refused(what, x, got, number);
     }
 
     private void refused(String what, HahaLawn x, boolean got, int number) {
-        due(what, got, false);
-        due(what + " trouble", x.trouble(), number);
+        check.refused(what, x, got, number);
     }
 
     private static int ledOr(HahaLawn x, int i, int ifNone) {
-        try {
-            return x.led(i);
-        } catch (NoSuchElementException e) {
-            return ifNone;
-        }
+        return Check.ledOr(x, i, ifNone);
     }
 
     // ---- promises 1 to 5
@@ -134,16 +126,11 @@ public final class PromisesTest {
     }
 
     private void fault(String text, int fault, int where) {
-        HahaLawn x = new HahaLawn();
-        refused("park of " + text, x, Check.tell(x, text), 4);
-        due("fault of " + text, x.fault(), fault);
-        due("where of " + text, x.where(), where);
+        check.fault(text, fault, where);
     }
 
     private void fine(String text, int places) {
-        HahaLawn x = new HahaLawn();
-        due("park of " + text, Check.tell(x, text), places);
-        due("fault of " + text, x.fault(), 0);
+        check.fine(text, places);
     }
 
     private void faults() {
