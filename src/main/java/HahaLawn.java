@@ -56,7 +56,7 @@ public final class HahaLawn {
     private final Way otherWay = new Way();
     private final Flood flood = new Flood();
     private final CutSearch cutSearch = new CutSearch();
-    private final GateSearch gateSearch = new GateSearch();
+    private final DrySearch drySearch = new DrySearch();
     private final Guess guess = new Guess();
     private final Fraction fraction = new Fraction();
     private Park told = new Park();
@@ -235,7 +235,7 @@ public final class HahaLawn {
             return refuse(NO_SUCH);
         }
         flood.learn(now.ground, told.kinds[w], true);
-        return answer(flood.spread(now.at[w], 0));
+        return answer(flood.spread(now.at[w], now.ground.bitsOf(DITCH), 0));
     }
 
     public int reachIn(int w, int n) {
@@ -294,8 +294,8 @@ public final class HahaLawn {
         if (!hasPark()) {
             return refuse(NO_SUCH);
         }
-        gateSearch.begin(told, now);
-        return answer(gateSearch.fewest(now.ground.bitsOf(DITCH)));
+        drySearch.begin(told, now);
+        return answer(drySearch.fewest(now.ground.bitsOf(DITCH)));
     }
 
     public int toFill() {
@@ -323,15 +323,13 @@ public final class HahaLawn {
         if (!hasPark()) {
             return refuse(NO_SUCH);
         }
-        int before = walkersWithDryWay(now);
+        drySearch.begin(told, now);
+        int before = drySearch.walkersBy(0);
         int best = NOTHING;
         int most = 0;
-        trial.take(now);
         for (int c = 0; c < now.ground.count; c++) {
             if (now.ground.sortAt(c) == LAWN && now.walkersAt(c) == 0) {
-                trial.ground.put(c, DITCH);
-                int losers = Integer.bitCount(before & ~walkersWithDryWay(trial));
-                trial.ground.put(c, LAWN);
+                int losers = Integer.bitCount(before & ~drySearch.walkersBy(1 << c));
                 if (losers > most) {
                     most = losers;
                     best = c;
@@ -717,17 +715,6 @@ public final class HahaLawn {
         return sum;
     }
 
-    private int walkersWithDryWay(Now state) {
-        int bits = 0;
-        for (int w = 0; w < told.walkers; w++) {
-            flood.learn(state.ground, told.kinds[w], false);
-            if (flood.comesTo(state.at[w], told.goals[w], 0)) {
-                bits |= 1 << w;
-            }
-        }
-        return bits;
-    }
-
     private int firstMeeting(int w, int other) {
         if (!findQuick(way, w) || !findQuick(otherWay, other)) {
             return NOTHING;
@@ -870,23 +857,18 @@ public final class HahaLawn {
             if (to == NONE) {
                 return NOTHING;
             }
-            if (kind == COLONEL) {
-                return 1;
-            }
             if (sorts[to] == DITCH) {
                 return timeOntoDitch(kind, step);
             }
-            if (sorts[c] == DITCH && step == SOUTH) {
-                return kind == KEEPER ? 4 : NOTHING;
-            }
-            return 1;
+            return sorts[c] == DITCH ? timeOutOfDitch(kind, step) : 1;
         }
 
-        private static int timeOntoDitch(int kind, int step) {
+        /** From anywhere, another ditch too. */
+        static int timeOntoDitch(int kind, int step) {
             if (kind == CHILD) {
                 return NOTHING;
             }
-            if (step == EAST || step == WEST) {
+            if (kind == COLONEL || step == EAST || step == WEST) {
                 return 1;
             }
             if (kind == KEEPER) {
@@ -895,13 +877,22 @@ public final class HahaLawn {
             return step == SOUTH ? 3 : NOTHING;
         }
 
+        /** Onto lawn or a gate. */
+        static int timeOutOfDitch(int kind, int step) {
+            if (kind == COLONEL || step != SOUTH) {
+                return 1;
+            }
+            return kind == KEEPER ? 4 : NOTHING;
+        }
+
+        static boolean isFallOntoDitch(int kind, int step) {
+            return kind == GUEST && step == SOUTH;
+        }
+
         /** 1 if such a walker FALLS by a STEP that he can do, else 0. */
         int fallsFor(int kind, int c, int step) {
-            if (kind != GUEST || step != SOUTH) {
-                return 0;
-            }
             int to = target(c, step);
-            return to != NONE && sorts[to] == DITCH ? 1 : 0;
+            return to != NONE && sorts[to] == DITCH && isFallOntoDitch(kind, step) ? 1 : 0;
         }
 
         void take(Ground other) {
@@ -1494,45 +1485,55 @@ public final class HahaLawn {
         }
     }
 
-    /** Where a walker of some kind can come to. */
+    /** Where a walker of some kind can come to, whichever PLACES are ditches. */
     private static final class Flood {
-        private final int[] next = new int[MOST_PLACES];
+        private final int[] fromLawn = new int[MOST_PLACES];
+        private final int[] fromDitch = new int[MOST_PLACES];
+        private final int[] ontoDitch = new int[MOST_PLACES];
 
         void learn(Ground ground, int kind, boolean fallsToo) {
             for (int c = 0; c < ground.count; c++) {
-                next[c] = 0;
+                fromLawn[c] = 0;
+                fromDitch[c] = 0;
+                ontoDitch[c] = 0;
                 for (int step = 0; step < STEPS; step++) {
-                    boolean can = ground.timeFor(kind, c, step) != NOTHING;
-                    if (can && (fallsToo || ground.fallsFor(kind, c, step) == 0)) {
-                        next[c] |= 1 << ground.target(c, step);
+                    int to = ground.target(c, step);
+                    int bit = to == NONE ? 0 : 1 << to;
+                    fromLawn[c] |= bit;
+                    if (Ground.timeOutOfDitch(kind, step) != NOTHING) {
+                        fromDitch[c] |= bit;
+                    }
+                    boolean lets = fallsToo || !Ground.isFallOntoDitch(kind, step);
+                    if (lets && Ground.timeOntoDitch(kind, step) != NOTHING) {
+                        ontoDitch[c] |= bit;
                     }
                 }
             }
         }
 
         /** All PLACES that he can come to, those that are barred left out, as bits. */
-        int spread(int from, int barred) {
+        int spread(int from, int ditches, int barred) {
             int seen = 1 << from;
             int fresh = seen;
             for (int i = 0; i < MOST_PLACES && fresh != 0; i++) {
                 int lowest = fresh & -fresh;
-                int more = next[Integer.bitCount(lowest - 1)] & ~seen & ~barred;
+                int c = Integer.bitCount(lowest - 1);
+                int open = ((ditches & lowest) == 0 ? fromLawn[c] : fromDitch[c]) & ~ditches | ontoDitch[c] & ditches;
+                int more = open & ~seen & ~barred;
                 seen |= more;
                 fresh = fresh & ~lowest | more;
             }
             return seen;
         }
 
-        boolean comesTo(int from, int to, int barred) {
-            return (spread(from, barred) >> to & 1) == 1;
+        boolean comesTo(int from, int to, int ditches, int barred) {
+            return (spread(from, ditches, barred) >> to & 1) == 1;
         }
     }
 
     /** Looks for the fewest PLACES by which something holds. */
     private abstract static class Search {
         private static final int MOST = 3;
-
-        final Flood flood = new Flood();
 
         abstract boolean worksBy(int set);
 
@@ -1565,48 +1566,65 @@ public final class HahaLawn {
 
     /** Hedges by which a walker never comes there. */
     private static final class CutSearch extends Search {
+        private final Flood flood = new Flood();
+        private int ditches;
         private int from;
         private int to;
 
         void begin(Ground ground, int kind, int start, int goal) {
             flood.learn(ground, kind, true);
+            ditches = ground.bitsOf(DITCH);
             from = start;
             to = goal;
         }
 
         boolean worksBy(int set) {
-            return !flood.comesTo(from, to, set);
+            return !flood.comesTo(from, to, ditches, set);
         }
     }
 
-    /** Gates by which each walker has a way without FALL. */
-    private static final class GateSearch extends Search {
-        private final Ground ground = new Ground();
-        private Park park;
-        private Now now;
+    /** Who has a way without FALL; gates by which each walker has one. */
+    private static final class DrySearch extends Search {
+        private final Flood[] floods = new Flood[MOST_WALKERS];
+        private final int[] starts = new int[MOST_WALKERS];
+        private final int[] goals = new int[MOST_WALKERS];
+        private int walkers;
+        private int ditches;
         private int lost;
 
-        void begin(Park told, Now state) {
-            park = told;
-            now = state;
+        DrySearch() {
+            for (int w = 0; w < MOST_WALKERS; w++) {
+                floods[w] = new Flood();
+            }
+        }
+
+        void begin(Park park, Now now) {
+            walkers = park.walkers;
+            ditches = now.ground.bitsOf(DITCH);
             lost = 0;
+            for (int w = 0; w < walkers; w++) {
+                floods[w].learn(now.ground, park.kinds[w], false);
+                starts[w] = now.at[w];
+                goals[w] = park.goals[w];
+            }
+        }
+
+        /** Walkers with such a way if these PLACES are ditches too, as bits. */
+        int walkersBy(int dug) {
+            int bits = 0;
+            for (int w = 0; w < walkers; w++) {
+                if (floods[w].comesTo(starts[w], goals[w], ditches | dug, 0)) {
+                    bits |= 1 << w;
+                }
+            }
+            return bits;
         }
 
         boolean worksBy(int set) {
-            if (park == null || now == null) {
-                return false;
-            }
-            ground.take(now.ground);
-            for (int c = 0; c < ground.count; c++) {
-                if ((set >> c & 1) == 1) {
-                    ground.put(c, GATE);
-                }
-            }
             // Who had no way by the set before is asked first: he is the likeliest to have none again.
-            for (int i = 0; i < park.walkers; i++) {
-                int w = (lost + i) % park.walkers;
-                flood.learn(ground, park.kinds[w], false);
-                if (!flood.comesTo(now.at[w], park.goals[w], 0)) {
+            for (int i = 0; i < walkers; i++) {
+                int w = (lost + i) % walkers;
+                if (!floods[w].comesTo(starts[w], goals[w], ditches & ~set, 0)) {
                     lost = w;
                     return false;
                 }

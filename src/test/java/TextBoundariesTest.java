@@ -21,11 +21,13 @@ public final class TextBoundariesTest {
         test.tapeStaysBy2();
         test.parkStaysBy4();
         test.parkAnewForgetsActsAndImages();
+        test.nothingOfAFaultyTextStays();
         test.faultIsOfTheLatestNotRefusedBy2();
         test.whereIsOfTheLatestThatMayBeRefused();
         test.blanksPartTokens();
         test.bytesThatBeginNoToken();
         test.wordsOf1To8Letters();
+        test.everyLetterOfAWord();
         test.wholesOf1To3Digits();
         test.marks();
         test.boundsOfPark();
@@ -232,6 +234,36 @@ public final class TextBoundariesTest {
         check.due("3 no hedge of the former ones", x.all(0), (1 << 20) - 1);
     }
 
+    private void nothingOfAFaultyTextStays() {
+        String large = "park wide 5 deep 4 errs 1 slips 2;row uuuuu;row ddddd;row ggggg;row ooooo";
+        String walkers = walker("aa") + walker("ab") + walker("ac") + walker("ad");
+        String walks = ";walk 0 0 steps 1 dry".repeat(6);
+        String small = open(2, 2) + ";walker aa child at 0 1 to 1 0;walker ab guest at 0 0 to 0 0;walk 0 0 steps 1 fell";
+        HahaLawn x = new HahaLawn();
+        for (String bad : new String[] {large + walkers + walks + ";", large + walkers + ";", large + ";", large + walks + " ?",
+            small + walker("aa"), open(5, 4) + walkers + ";walker"}) {
+            check.refused("3 a FAULT in " + bad, x, Check.tell(x, bad), 4);
+            check.told("3 fine behind it", x, Check.tell(x, small), 4);
+            int[] sizes = {2, 2, 0, 0, 2, 1, 0, 0, 0, 0};
+            for (int what = 0; what < sizes.length; what++) {
+                check.due("3 size " + what + " behind " + bad, x.size(what), sizes[what]);
+            }
+            check.due("3 lawn alone behind " + bad, x.all(0), 15);
+            check.due("3 the first walker behind " + bad, x.walker(0, 1) * 10 + x.walker(0, 2), 21);
+            check.due("3 no FITS behind " + bad, x.fits(), 0);
+            check.told("3 another", x, Check.tell(x, large), 20);
+            check.due("3 its walkers", x.size(4), 0);
+            check.due("3 its walks", x.size(5), 0);
+        }
+        check.told("3 with a guest", x, Check.tell(x, "park wide 2 deep 2 errs 0 slips 0;row oo;row do" + walker("a")), 4);
+        x.step(0, 2);
+        check.due("7 he fell", x.walker(0, 3), 1);
+        check.told("3 anew", x, Check.tell(x, "park wide 2 deep 2 errs 0 slips 0;row oo;row do" + walker("a")), 4);
+        check.due("7 falls begin anew", x.walker(0, 3), 0);
+        check.due("7 minutes begin anew", x.walker(0, 4), 0);
+        check.due("7 where he is begins anew", x.walker(0, 1), 0);
+    }
+
     private void faultIsOfTheLatestNotRefusedBy2() {
         HahaLawn x = new HahaLawn();
         check.due("4 without one", x.fault(), 0);
@@ -339,6 +371,29 @@ public final class TextBoundariesTest {
         fault(LAND + ";rowrowrow", 1, BEHIND + 1);
         fault(LAND + "; walkwalkw", 1, BEHIND + 2);
         fault(LAND + "walkwalkw", 1, LAND.length() - 3);
+    }
+
+    /** Each WORD of a LINE with a letter changed, fewer, or more is another one: FORM at it. */
+    private void everyLetterOfAWord() {
+        String text = LAND + ";walker q guest at 0 0 to 0 1;walker r child at 0 0 to 0 1;walker s colonel at 0 0 to 0 1"
+            + ";walker t keeper at 0 0 to 0 1;walk 0 0 steps 1 fell;walk 0 0 steps 1 dry";
+        java.util.regex.Matcher words = java.util.regex.Pattern.compile("[a-z]{2,}").matcher(text);
+        int seen = 0;
+        while (words.find()) {
+            String word = words.group();
+            if (!word.equals("odh") && !word.equals("ogo")) {
+                String before = text.substring(0, words.start());
+                String behind = text.substring(words.end());
+                for (int i = 0; i < word.length(); i++) {
+                    fault(before + word.substring(0, i) + "x" + word.substring(i + 1) + behind, 1, words.start());
+                }
+                fault(before + word.substring(1) + behind, 1, words.start());
+                fault(before + word.substring(0, word.length() - 1) + behind, 1, words.start());
+                fault(before + word + "x" + behind, 1, words.start());
+                seen++;
+            }
+        }
+        check.due("WORDS seen", seen, 7 + 4 * 4 + 2 * 3);
     }
 
     private void wholesOf1To3Digits() {
@@ -627,9 +682,10 @@ public final class TextBoundariesTest {
     private void stepsOfWalks() {
         for (int deep = 2; deep <= 4; deep++) {
             for (int row = 0; row < deep; row++) {
-                for (int steps = 0; steps <= 5; steps++) {
+                for (int k = 0; k < 18; k++) {
+                    int steps = k / 3;
                     String land = open(3, deep);
-                    String text = land + ";walk 2 " + row + " steps " + steps + " fell";
+                    String text = land + ";walk " + k % 3 + " " + row + " steps " + steps + " fell";
                     if (steps >= 1 && steps <= 3 && row + steps < deep) {
                         fine(text, 3 * deep);
                     } else {

@@ -19,12 +19,15 @@ public final class WayBoundariesTest {
         test.reachOfWhomCantMove();
         test.reachInMinutes();
         test.minutesToAnyPlace();
+        test.soonestIsByFallsToo();
         test.latestOfLikeOnes();
         test.cutsOf0To3();
         test.cutSparesWhereHeIsAndGoes();
         test.gatesOf0To3();
         test.gatesForAllWalkers();
+        test.fallsCountAsWays();
         test.ditchToFill();
+        test.sixtyForWhoHasNone();
         test.lawnToDig();
         test.meetings();
         test.meetingsOfNobody();
@@ -261,6 +264,14 @@ public final class WayBoundariesTest {
         }
     }
 
+    /** Two falls take 6 minutes, the way without 8. */
+    private void soonestIsByFallsToo() {
+        HahaLawn x = of(park("oooo", "dhho", "dooo"), walker("a", "guest", 0, 0, 0, 2), walker("b", "child", 0, 0, 1, 2));
+        check.told("19 by falls", x, x.minutesTo(0, 8), 6);
+        check.told("18 by falls", x, x.reachIn(0, 6) >> 8 & 1, 1);
+        check.told("20 seven minutes ahead of six", x, x.latest(), 1);
+    }
+
     private void latestOfLikeOnes() {
         HahaLawn x = of(park("ooo", "hho"), walker("a", "guest", 0, 0, 0, 0), walker("b", "guest", 0, 0, 2, 0),
             walker("c", "child", 2, 0, 0, 0), walker("d", "keeper", 2, 1, 1, 0));
@@ -349,6 +360,43 @@ public final class WayBoundariesTest {
         check.told("22 into a ditch from the side there is no FALL", x, x.gates(), 0);
     }
 
+    /** Where a way is asked for, one by FALLS will do; where one without FALL is, it won't. */
+    private void fallsCountAsWays() {
+        HahaLawn x = of(park("oh", "dh", "dh"), walker("a", "guest", 0, 0, 0, 2));
+        check.told("17 by falls", x, x.reach(0), 0b010101);
+        check.told("18 by a fall", x, x.reachIn(0, 3), 0b000101);
+        check.told("19 by falls", x, x.minutesTo(0, 4), 6);
+        check.told("21 the way by falls is cut", x, x.cut(0), 0b000100);
+        check.told("22 gates, as he falls", x, x.gates(), 0b010100);
+        check.told("24 he has no way to lose", x, x.trap(), -2);
+        check.told("27 he falls there", x, x.passers(2), 1);
+        check.due("52 he has a way", Check.ledOr(x, 0, -7), -7);
+    }
+
+    private int sum(HahaLawn x, int filled, int walkers, int ifNone) {
+        int sum = 0;
+        x.fill(filled);
+        for (int w = 0; w < walkers; w++) {
+            sum += x.quick(w) == -2 ? ifNone : x.quick(w);
+        }
+        x.undo();
+        return sum;
+    }
+
+    /** By one ditch three gain so much that it is as good, or not quite, as a way for the fourth. */
+    private void sixtyForWhoHasNone() {
+        HahaLawn x = of(park("ddgog", "doghd", "dhhhd", "goodd"), walker("a", "guest", 0, 2, 0, 3),
+            walker("b", "child", 4, 1, 0, 1), walker("c", "guest", 0, 2, 0, 3), walker("d", "guest", 0, 2, 0, 3));
+        check.due("23 three times 19 round it, and 6", sum(x, 5, 4, -1000), 63);
+        check.due("23 three times 1, and none", sum(x, 10, 4, 0), 3);
+        check.told("23 by 60 both are alike: the first", x, x.toFill(), 5);
+        x = of(park("ddgdd", "oghod", "gdhdd", "dodgd"), walker("a", "guest", 4, 1, 4, 0),
+            walker("b", "guest", 4, 3, 4, 2), walker("c", "guest", 2, 3, 4, 2), walker("d", "guest", 4, 3, 4, 2));
+        check.due("23 all have one", sum(x, 0, 4, -1000), 66);
+        check.due("23 and none", sum(x, 14, 4, 0), 5);
+        check.told("23 by 60 it is one fewer", x, x.toFill(), 14);
+    }
+
     private void ditchToFill() {
         HahaLawn x = of(park("oo", "oo"), walker("a", "guest", 0, 0, 1, 1));
         check.told("23 no ditch", x, x.toFill(), -2);
@@ -364,11 +412,22 @@ public final class WayBoundariesTest {
         check.due("23 asking fills none", x.all(1), 0b101101000);
         x = of(park("ohod", "dhdh"), walker("a", "keeper", 0, 1, 0, 0), walker("b", "guest", 2, 0, 2, 1));
         check.told("23 the last one", x, x.toFill(), 6);
+        x = of(park("do", "od"), walker("a", "child", 0, 1, 0, 0), walker("b", "child", 0, 1, 0, 0),
+            walker("c", "child", 0, 1, 0, 0), walker("d", "child", 0, 1, 1, 1));
+        check.told("23 the first PLACE, by three of four", x, x.toFill(), 0);
+        x = of(park("oho", "dhd"), walker("a", "keeper", 0, 0, 0, 1), walker("b", "guest", 2, 0, 2, 1));
+        check.told("23 two minutes gained ahead of one", x, x.toFill(), 5);
+        x = of(park("oho", "dhd"), walker("a", "guest", 2, 0, 2, 1), walker("b", "keeper", 0, 0, 0, 1));
+        check.told("23 also by the first walker", x, x.toFill(), 5);
+        x = of(park("oodo", "dhho", "dooo"), walker("a", "guest", 0, 0, 0, 2));
+        check.told("23 by the QUICK way, not the DRY one", x, x.toFill(), 4);
     }
 
     private void lawnToDig() {
         HahaLawn x = of(park("dd", "gg"), walker("a", "guest", 0, 1, 1, 1));
         check.told("24 no lawn", x, x.trap(), -2);
+        x = of(park("oh", "oh"), walker("a", "child", 0, 1, 0, 0));
+        check.told("24 the first PLACE", x, x.trap(), 0);
         x = of(park("oh", "oh"), walker("a", "guest", 0, 0, 0, 1));
         check.told("24 where he goes", x, x.trap(), 2);
         x.step(0, 2);
