@@ -171,9 +171,25 @@ public final class WayBoundariesTest {
         steps("two STEPS", x, 1, "03", "03");
     }
 
-    /** As long as a way can be: each PLACE but where he is, in a park of 5 by 4 with hedges a winding one. */
+    /** As long as a way can be: over all 20 PLACES, as walls leave no shorter one; and winding ones among hedges. */
     private void longestWays() {
-        HahaLawn x = of(park("ooooo", "hhhho", "ooooo", "ohhhh"), walker("a", "child", 0, 0, 0, 3));
+        String all = "1111033330111103333";
+        HahaLawn x = of(park("ddddo", "odddd", "ddddo", "ddddd"), walker("a", "guest", 0, 3, 0, 0),
+            walker("b", "guest", 0, 0, 0, 0));
+        check.told("11 nineteen", x, x.quick(0), 19);
+        check.told("12 without a FALL", x, x.quickFalls(0), 0);
+        check.told("14 without a FALL", x, x.dry(0), 0);
+        check.told("15 nineteen", x, x.dryMinutes(0), 19);
+        steps("nineteen STEPS", x, 0, all, all);
+        check.told("17 everywhere", x, x.reach(0), (1 << 20) - 1);
+        check.told("18 in 18 all but the last", x, x.reachIn(0, 18), (1 << 20) - 2);
+        check.told("18 in 19", x, x.reachIn(0, 19), (1 << 20) - 1);
+        check.told("25 in the last minute", x, x.meet(0, 1), 19);
+        check.told("26 at the last PLACE", x, x.meetAt(0, 1), 0);
+        for (int c = 0; c < 20; c++) {
+            check.told("27 he passes " + c, x, x.passers(c), c == 0 ? 3 : 1);
+        }
+        x = of(park("ooooo", "hhhho", "ooooo", "ohhhh"), walker("a", "child", 0, 0, 0, 3));
         check.told("11 eleven", x, x.quick(0), 11);
         steps("eleven STEPS", x, 0, "11112233332", "11112233332");
         check.told("18 a minute fewer", x, x.reachIn(0, 10), x.reach(0) & ~(1 << 15));
@@ -229,6 +245,10 @@ public final class WayBoundariesTest {
             HahaLawn x = of(park("oh", "ho"), walker("a", kind, 0, 0, 1, 1));
             check.told("17 where he is", x, x.reach(0), 1);
             check.told("18 where he is", x, x.reachIn(0, 99), 1);
+        }
+        for (String kind : KINDS) {
+            HahaLawn x = of(park("oh", "hd"), walker("a", kind, 1, 1, 0, 0));
+            check.told("17 a ditch, where he is", x, x.reach(0), 8);
         }
         HahaLawn x = of(park("dd", "oo"), walker("a", "guest", 0, 1, 0, 0), walker("b", "child", 0, 0, 0, 1),
             walker("c", "child", 1, 1, 0, 0), walker("d", "keeper", 0, 1, 0, 0));
@@ -444,6 +464,9 @@ public final class WayBoundariesTest {
         check.told("24 of two, where nobody is", x, x.trap(), 8);
         x = of(park("oo", "oo"), walker("a", "keeper", 0, 0, 0, 1), walker("b", "colonel", 1, 0, 1, 1));
         check.told("24 by none", x, x.trap(), -2);
+        x = of(park("ooo", "ooo"), walker("a", "child", 0, 0, 1, 0), walker("b", "child", 0, 0, 2, 1),
+            walker("c", "child", 0, 0, 2, 1), walker("d", "child", 0, 0, 2, 1));
+        check.told("24 three of four ahead of one", x, x.trap(), 5);
         x = of(park("dh", "oh"), walker("a", "guest", 0, 1, 0, 0));
         check.told("24 nobody has a way to lose", x, x.trap(), -2);
     }
