@@ -46,6 +46,8 @@ public final class HahaLawn {
     private static final int LONGEST_RAMBLE = 90;
     private static final int SEEDS = 65537;
     private static final int MINUTES_WITHOUT_WAY = 60;
+    /** More than the ways of all walkers together can need. */
+    private static final int MINUTES_ABOVE_ALL = 1000000;
 
     private final Tape tape = new Tape();
     private final Now now = new Now();
@@ -303,7 +305,7 @@ public final class HahaLawn {
             return refuse(NO_SUCH);
         }
         int best = NOTHING;
-        int fewest = Integer.MAX_VALUE;
+        int fewest = MINUTES_ABOVE_ALL;
         trial.take(now);
         for (int c = 0; c < now.ground.count; c++) {
             if (now.ground.sortAt(c) == DITCH) {
